@@ -112,7 +112,7 @@ public final class HornBridge {
     }
 
     private boolean isTray(int tray) {
-        return tray >= 0 && tray < trays.length;
+        return tray >= 0 && tray < trays.length && trays[tray] != null;
     }
 
     private int wrongPlace(int tray, int place) {

@@ -1760,18 +1760,12 @@ public final class HornBridge {
                     since = turnEnd(minute);
                 }
             }
-            return open ? all + endOfPlan() - since : all;
-        }
-
-        private int endOfPlan() {
-            int end = 0;
-            for (int k = 0; k < ships.many; k++) {
-                end = Math.max(end, shipBegins[k] + ships.takes[k]);
+            int last = ships.many - 1;
+            if (!open || last < 0) {
+                return all;
             }
-            for (int k = 0; k < carts.many; k++) {
-                end = Math.max(end, cartBegins[k] + carts.takes[k]);
-            }
-            return end;
+            // OPEN at last, so that a SHIP is the last to pass.
+            return all + shipBegins[last] + ships.takes[last] - since;
         }
 
         /** By the PLAN laid latest: NONE if nobody waits. */

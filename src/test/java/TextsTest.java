@@ -7,6 +7,7 @@ public final class TextsTest {
         tape();
         taken();
         coming();
+        cutTexts();
         riverFaults();
         riverNames();
         riverLimits();
@@ -98,6 +99,30 @@ public final class TextsTest {
         due.none(x, "nextCart(-1)", x.nextCart(-1), 6);
     }
 
+    /** What lies on the tape behind the n bytes is no part of the text. */
+    private static void cutTexts() {
+        HornBridge x = new HornBridge();
+        Due.feed(x, "port zzz calls l;ship yz of zzz at 10 takes 19 costs 90;");
+        due.fine(x, "all of it", x.river(56), 1);
+        due.fine(x, "a 0", x.ship(0, 1), 10);
+        due.fine(x, "a 9", x.ship(0, 2), 19);
+        int[][] cuts = {{52, 2, 52}, {54, 2, 54}, {55, 2, 55}, {50, 2, 47}, {3, 2, 0}, {5, 2, 5}, {7, 2, 7}};
+        for (int[] cut : cuts) {
+            Due.feed(x, "port zzz calls l;ship yz of zzz at 10 takes 19 costs 90;");
+            due.none(x, "cut at " + cut[0], x.river(cut[0]), 9);
+            due.is("FAULT of it, cut at " + cut[0], x.fault(0), cut[1]);
+            due.is("place of it, cut at " + cut[0], x.fault(1), cut[2]);
+        }
+        Due.feed(x, "turns 20;     x");
+        due.fine(x, "cut in blanks", x.river(11), 0);
+        Due.feed(x, "turns 20000;");
+        due.none(x, "cut in a NUMBER", x.river(8), 9);
+        due.is("its place", x.fault(1), 8);
+        due.is("it is no NUMBER of 5 digits", x.fault(0), 2);
+        Due.feed(x, "if open do open;if shut do shut;");
+        due.fine(x, "the first RULE alone", x.rules(16), 1);
+    }
+
     private static void riverFaults() {
         due.riverFault("Turns 3;", 1, 0);
         due.riverFault("turns 3,", 1, 7);
@@ -118,7 +143,13 @@ public final class TextsTest {
         due.riverFault("turns 3 ;;", 2, 9);
         due.riverFault("turns 0;", 4, 6);
         due.riverFault("turns 9999;", 4, 6);
+        due.riverFault("turns 21;", 4, 6);
+        due.riverFault("echo 10;", 4, 5);
         due.riverFault("frost 3 of 4;", 2, 8);
+        due.riverFault("frost 3;", 2, 7);
+        due.riverFault("frost 3 from;", 2, 12);
+        due.riverFault("frost 21 from 4;", 4, 6);
+        due.riverFault("frost 20 from 201;", 4, 14);
         due.riverFault("frost 3 from 4;frost", 5, 15);
         due.riverFault("echo 0;echo", 5, 7);
         due.riverFault("turns 5;turns 5;", 5, 8);
@@ -139,6 +170,21 @@ public final class TextsTest {
         due.riverFault("cart a at 121 takes 1 costs 1;", 4, 10);
         due.riverFault("cart a at 1 takes 0 costs 1;", 4, 18);
         due.riverFault("cart a at 1 takes 21 costs 1;", 4, 18);
+        due.riverFault("cart a;", 2, 6);
+        due.riverFault("cart a at;", 2, 9);
+        due.riverFault("cart a at 1;", 2, 11);
+        due.riverFault("cart a at 1 takes 1;", 2, 19);
+        due.riverFault("cart a at 1 takes 1 costs;", 2, 25);
+        due.riverFault("cart;", 2, 4);
+        due.riverFault("port;", 2, 4);
+        due.riverFault("port p;", 2, 6);
+        due.riverFault(PORT + "ship;", 2, 19);
+        due.riverFault(PORT + "ship a;", 2, 21);
+        due.riverFault(PORT + "ship a of;", 2, 24);
+        due.riverFault(PORT + "ship a of p;", 2, 26);
+        due.riverFault(PORT + "ship a of p at 121 takes", 4, 30);
+        due.riverFault(PORT + "ship a of p at 120 takes 21", 4, 40);
+        due.riverFault(PORT + "ship a of p at 120 takes 20 costs 100", 4, 49);
         due.riverFault("cart a at 1 costs", 2, 12);
         due.riverFault("cart a at 1 takes 1 takes", 2, 20);
         due.riverFault("cart a of", 2, 7);

@@ -14,6 +14,7 @@ public final class WaitsTest {
         sails();
         frost();
         slackStays();
+        noSlack();
         planStays();
         wrongInputs();
         Random random = new Random(11);
@@ -146,6 +147,18 @@ public final class WaitsTest {
         for (int minutes = slack + 1; minutes <= 60; minutes++) {
             due.is("behind slack", x.later(0, minutes) > least, true);
         }
+    }
+
+    /** SAILS all the way: wherever the first comes later, another passes. */
+    private static void noSlack() {
+        HornBridge x = Due.at("port p calls l;turns 5;ship a of p at 5 takes 20 costs 0 sail;ship b of p at 25 takes 20 costs 0 sail;"
+                + "ship c of p at 45 takes 20 costs 0 sail;ship d of p at 65 takes 20 costs 0 sail;");
+        due.fine(x, "least", x.least(), 0);
+        due.fine(x, "slack of the first", x.slack(0), 0);
+        due.fine(x, "slack of the last", x.slack(3), 60);
+        HornBridge y = Due.at("port p calls l;turns 5;ship a of p at 6 takes 20 costs 0 sail;ship b of p at 27 takes 20 costs 0 sail;"
+                + "ship c of p at 47 takes 20 costs 0 sail;ship d of p at 67 takes 20 costs 0 sail;");
+        due.fine(y, "slack of 1", y.slack(0), 1);
     }
 
     private static void planStays() {

@@ -25,6 +25,7 @@ public final class HornBridge {
     private static final int MOST_MARKS = 3;
     private static final int MOST_READINGS = 474;
     private static final int ALONE = 6;
+    private static final int LONG_BITS = 64;
 
     private int status = FINE;
     private long top = 0;
@@ -277,7 +278,7 @@ public final class HornBridge {
         if (!isPort(port)) {
             return refuse(IMPOSSIBLE_NUMBER);
         }
-        return answer(Long.SIZE - Long.numberOfLeadingZeros(river.heardOf(port)));
+        return answer(LONG_BITS - Long.numberOfLeadingZeros(river.heardOf(port)));
     }
 
     public int far(int a, int b) {

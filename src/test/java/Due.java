@@ -58,6 +58,66 @@ final class Due {
         is("place of " + text, x.fault(1), place);
     }
 
+    /** A FAULT of a RIVER, at the place of the ^, which is no part of the text. */
+    void riverFaultAt(int kind, String marked) {
+        riverFault(marked.replace("^", ""), kind, marked.indexOf('^'));
+    }
+
+    /** A FAULT of RULES, at the place of the ^, which is no part of the text. */
+    void rulesFaultAt(int kind, String marked) {
+        rulesFault(marked.replace("^", ""), kind, marked.indexOf('^'));
+    }
+
+    /** A RIVER of so many SHIPS, without a FAULT. */
+    HornBridge riverTaken(String text, int ships) {
+        HornBridge x = new HornBridge();
+        fine(x, "river " + text, river(x, text), ships);
+        is("no FAULT of " + text, x.fault(0), 0);
+        is("no place of " + text, x.fault(1), -1);
+        return x;
+    }
+
+    /** So many RULES, without a FAULT. */
+    HornBridge rulesTaken(String text, int rules) {
+        HornBridge x = new HornBridge();
+        fine(x, "rules " + text, rules(x, text), rules);
+        is("no FAULT of " + text, x.fault(0), 0);
+        is("no place of " + text, x.fault(1), -1);
+        return x;
+    }
+
+    /** A day: all WAITS, then what kept() tells. */
+    void day(HornBridge x, int seed, int waits, int... kept) {
+        fine(x, "keep(" + seed + ")", x.keep(seed), waits);
+        for (int what = 0; what < kept.length; what++) {
+            fine(x, "kept(" + what + ")", x.kept(what), kept[what]);
+        }
+    }
+
+    /** The acts of the PLAN: 0 a SHIP, 1 a CART, 2 a turn; the minute; who. */
+    void acts(HornBridge x, int[]... acts) {
+        fine(x, "plan", x.plan(), acts.length);
+        for (int k = 0; k < acts.length; k++) {
+            fine(x, "act " + k, x.planAt(k, 0), acts[k][0]);
+            fine(x, "minute of act " + k, x.planAt(k, 1), acts[k][1]);
+            if (acts[k][0] == 2) {
+                none(x, "who of turn " + k, x.planAt(k, 2), 6);
+            } else {
+                fine(x, "who of act " + k, x.planAt(k, 2), acts[k][2]);
+            }
+        }
+        none(x, "behind all acts", x.planAt(acts.length, 0), 6);
+        none(x, "ahead of all acts", x.planAt(-1, 0), 6);
+    }
+
+    static HornBridge at(String river, String rules) {
+        HornBridge x = at(river);
+        if (rules(x, rules) == HornBridge.NONE) {
+            throw new IllegalArgumentException(rules + " has FAULT " + x.fault(0) + " at " + x.fault(1));
+        }
+        return x;
+    }
+
     static HornBridge at(String river) {
         HornBridge x = new HornBridge();
         if (river(x, river) == HornBridge.NONE) {

@@ -25,21 +25,6 @@ public final class RulesTest {
         due.end("RulesTest");
     }
 
-    private static HornBridge at(String river, String rules) {
-        HornBridge x = Due.at(river);
-        if (Due.rules(x, rules) == HornBridge.NONE) {
-            throw new IllegalArgumentException(rules + " has FAULT " + x.fault(0) + " at " + x.fault(1));
-        }
-        return x;
-    }
-
-    private static void day(HornBridge x, int seed, int waits, int... kept) {
-        due.fine(x, "keep(" + seed + ")", x.keep(seed), waits);
-        for (int what = 0; what < 5; what++) {
-            due.fine(x, "kept(" + what + ")", x.kept(what), kept[what]);
-        }
-    }
-
     private static void noRules() {
         HornBridge x = Due.at("port p calls l;");
         due.none(x, "keep", x.keep(-1), 6);
@@ -54,65 +39,65 @@ public final class RulesTest {
     }
 
     private static void emptyRules() {
-        HornBridge x = at("cart c at 3 takes 2 costs 1;cart d at 4 takes 9 costs 7;", "");
-        day(x, -1, 7, 0, 0, 14, 0, 0);
-        HornBridge y = at("", "");
-        day(y, 0, 0, 0, 0, 0, 0, 0);
+        HornBridge x = Due.at("cart c at 3 takes 2 costs 1;cart d at 4 takes 9 costs 7;", "");
+        due.day(x, -1, 7, 0, 0, 14, 0, 0);
+        HornBridge y = Due.at("", "");
+        due.day(y, 0, 0, 0, 0, 0, 0, 0);
         due.fine(y, "odds", y.odds(0, 20));
         due.fraction(y, "odds", 1, 1);
-        HornBridge z = at("port p calls l;ship a of p at 3 takes 2 costs 1;", "");
-        day(z, -1, 0, 0, 0, 301, 1, 0);
+        HornBridge z = Due.at("port p calls l;ship a of p at 3 takes 2 costs 1;", "");
+        due.day(z, -1, 0, 0, 0, 301, 1, 0);
         due.fine(z, "odds", z.odds(9999, 1));
         due.fraction(z, "odds", 0, 1);
     }
 
     private static void oneShip() {
-        HornBridge x = at("port p calls l;turns 3;ship a of p at 10 takes 2 costs 5;", "if ships > 0 do open;");
-        day(x, -1, 15, 0, 1, 15, 0, 1);
-        HornBridge y = at("port p calls l;turns 3;ship a of p at 10 takes 2 costs 5;", "if next < 4 do open;if open and ships = 0 do shut;");
-        day(y, -1, 0, 0, 1, 12, 0, 1);
+        HornBridge x = Due.at("port p calls l;turns 3;ship a of p at 10 takes 2 costs 5;", "if ships > 0 do open;");
+        due.day(x, -1, 15, 0, 1, 15, 0, 1);
+        HornBridge y = Due.at("port p calls l;turns 3;ship a of p at 10 takes 2 costs 5;", "if next < 4 do open;if open and ships = 0 do shut;");
+        due.day(y, -1, 0, 0, 1, 12, 0, 1);
     }
 
     private static void sailsAreStruck() {
-        HornBridge x = at("port p calls l;turns 3;ship a of p at 10 takes 2 costs 5 sail;", "if ships > 0 do open;");
-        day(x, -1, 0, 1, 0, 11, 0, 0);
-        HornBridge y = at("port p calls l;turns 3;ship a of p at 10 takes 2 costs 5 sail;ship b of p at 10 takes 2 costs 5 sail;"
+        HornBridge x = Due.at("port p calls l;turns 3;ship a of p at 10 takes 2 costs 5 sail;", "if ships > 0 do open;");
+        due.day(x, -1, 0, 1, 0, 11, 0, 0);
+        HornBridge y = Due.at("port p calls l;turns 3;ship a of p at 10 takes 2 costs 5 sail;ship b of p at 10 takes 2 costs 5 sail;"
                 + "ship c of p at 11 takes 2 costs 5 sail;ship d of p at 12 takes 3 costs 5 sail;", "if shut do open;");
-        day(y, -1, 0, 2, 1, 15, 0, 2);
-        HornBridge z = at("port p calls l;turns 3;ship a of p at 10 takes 2 costs 5;ship b of p at 10 takes 2 costs 5 sail;",
+        due.day(y, -1, 0, 2, 1, 15, 0, 2);
+        HornBridge z = Due.at("port p calls l;turns 3;ship a of p at 10 takes 2 costs 5;ship b of p at 10 takes 2 costs 5 sail;",
                 "if shut do open;");
-        day(z, -1, 0, 1, 1, 12, 0, 1);
-        HornBridge w = at("port p calls l;turns 20;ship a of p at 19 takes 2 costs 5 sail;", "if shut do open;");
-        day(w, -1, 0, 1, 1, 20, 0, 0);
-        HornBridge v = at("port p calls l;turns 20;ship a of p at 20 takes 2 costs 5 sail;", "if shut do open;");
-        day(v, -1, 0, 0, 1, 22, 0, 1);
+        due.day(z, -1, 0, 1, 1, 12, 0, 1);
+        HornBridge w = Due.at("port p calls l;turns 20;ship a of p at 19 takes 2 costs 5 sail;", "if shut do open;");
+        due.day(w, -1, 0, 1, 1, 20, 0, 0);
+        HornBridge v = Due.at("port p calls l;turns 20;ship a of p at 20 takes 2 costs 5 sail;", "if shut do open;");
+        due.day(v, -1, 0, 0, 1, 22, 0, 1);
     }
 
     private static void frostAndTurned() {
         String river = "port p calls l;turns 2;frost 3 from 10;ship a of p at 120 takes 1 costs 0;";
         // Turns begin in minute 0 (OPEN in 2), 9 (SHUT in 11), 18 (OPEN in 23), 30, 42, .. , 102, 114 (OPEN in 119).
-        HornBridge x = at(river, "if minute < 1 do open;if turned = 7 and open do shut;if turned = 7 do open;");
-        day(x, -1, 0, 0, 11, 121, 0, 1);
+        HornBridge x = Due.at(river, "if minute < 1 do open;if turned = 7 and open do shut;if turned = 7 do open;");
+        due.day(x, -1, 0, 0, 11, 121, 0, 1);
     }
 
     private static void strikingTurn() {
-        HornBridge x = at("port p calls l;turns 2;ship a of p at 10 takes 2 costs 5 sail;",
+        HornBridge x = Due.at("port p calls l;turns 2;ship a of p at 10 takes 2 costs 5 sail;",
                 "if minute = 0 do open;if minute = 10 do shut;");
-        day(x, -1, 0, 1, 2, 11, 0, 0);
-        HornBridge y = at("port p calls l;turns 2;ship a of p at 10 takes 2 costs 5;",
+        due.day(x, -1, 0, 1, 2, 11, 0, 0);
+        HornBridge y = Due.at("port p calls l;turns 2;ship a of p at 10 takes 2 costs 5;",
                 "if minute = 0 do open;if minute = 10 do shut;");
-        day(y, -1, 0, 0, 2, 301, 1, 0);
-        HornBridge z = at("port p calls l;turns 2;ship a of p at 10 takes 2 costs 5 sail;",
+        due.day(y, -1, 0, 0, 2, 301, 1, 0);
+        HornBridge z = Due.at("port p calls l;turns 2;ship a of p at 10 takes 2 costs 5 sail;",
                 "if minute = 0 do open;if minute = 10 do rest;if minute = 10 do shut;");
-        day(z, -1, 0, 0, 1, 12, 0, 1);
+        due.day(z, -1, 0, 0, 1, 12, 0, 1);
     }
 
     private static void endOfDay() {
         String river = "port p calls l;turns 1;ship a of p at 0 takes 5 costs 1;";
-        day(at(river, "if minute > 294 do open;"), -1, 296, 0, 1, 301, 0, 1);
-        day(at(river, "if minute > 295 do open;"), -1, 297, 0, 1, 301, 0, 0);
-        day(at(river, "if minute > 299 do open;"), -1, 0, 0, 1, 301, 1, 0);
-        day(at(river, "if minute > 300 do open;"), -1, 0, 0, 0, 301, 1, 0);
+        due.day(Due.at(river, "if minute > 294 do open;"), -1, 296, 0, 1, 301, 0, 1);
+        due.day(Due.at(river, "if minute > 295 do open;"), -1, 297, 0, 1, 301, 0, 0);
+        due.day(Due.at(river, "if minute > 299 do open;"), -1, 0, 0, 1, 301, 1, 0);
+        due.day(Due.at(river, "if minute > 300 do open;"), -1, 0, 0, 0, 301, 1, 0);
     }
 
     private static void logic() {
@@ -123,27 +108,27 @@ public final class RulesTest {
         String[] fail = {"open", "not shut", "(shut or open) and open", "not (shut or ships>1)", "not shut and shut",
             "ships=0", "carts>0", "next>300", "minute>300", "turned<0", "not not open", "shut and (open or open)"};
         for (String either : hold) {
-            day(at(river, "if " + either + " do open;"), -1, 1, 0, 1, 2, 0, 1);
+            due.day(Due.at(river, "if " + either + " do open;"), -1, 1, 0, 1, 2, 0, 1);
         }
         for (String either : fail) {
-            HornBridge x = at(river, "if (" + either + ") and minute = 0 do open;if minute = 50 do open;");
-            day(x, -1, 51, 0, 1, 52, 0, 1);
+            HornBridge x = Due.at(river, "if (" + either + ") and minute = 0 do open;if minute = 50 do open;");
+            due.day(x, -1, 51, 0, 1, 52, 0, 1);
         }
     }
 
     private static void draws() {
         // From 0: 12553, by 8 is 1569, by 8 leaves 1; then 48814, by 8 is 6101, by 8 leaves 5.
-        HornBridge x = at("cart a at 0 takes 1 costs 0;cart b at 0 takes 1 costs 0;", "");
-        day(x, 0, 0, 0, 0, 6, 0, 0);
-        HornBridge y = at("port p calls l;turns 1;cart a at 0 takes 1 costs 0;ship b of p at 0 takes 1 costs 0;",
+        HornBridge x = Due.at("cart a at 0 takes 1 costs 0;cart b at 0 takes 1 costs 0;", "");
+        due.day(x, 0, 0, 0, 0, 6, 0, 0);
+        HornBridge y = Due.at("port p calls l;turns 1;cart a at 0 takes 1 costs 0;ship b of p at 0 takes 1 costs 0;",
                 "if ships > 0 do open;");
-        day(y, 0, 0, 0, 1, 301, 1, 1);
+        due.day(y, 0, 0, 0, 1, 301, 1, 1);
         due.fine(y, "odds", y.odds(0, 20));
         due.is("odds of some", y.top() > 0 && y.top() < y.bottom(), true);
     }
 
     private static void keptStays() {
-        HornBridge x = at("port p calls l;turns 3;ship a of p at 10 takes 2 costs 5;", "if ships > 0 do open;");
+        HornBridge x = Due.at("port p calls l;turns 3;ship a of p at 10 takes 2 costs 5;", "if ships > 0 do open;");
         x.keep(-1);
         x.waits(0, 20);
         x.odds(0, 20);
@@ -157,7 +142,7 @@ public final class RulesTest {
     }
 
     private static void wrongInputs() {
-        HornBridge x = at("", "");
+        HornBridge x = Due.at("", "");
         for (int seed : new int[] {-2, 10000, Integer.MIN_VALUE, Integer.MAX_VALUE}) {
             due.none(x, "keep", x.keep(seed), 1);
             due.no(x, "odds", x.odds(seed, 1), 1);

@@ -37,25 +37,10 @@ public final class WaitsTest {
         due.none(x, "busiest", x.busiest(), 6);
     }
 
-    private static void acts(HornBridge x, int[]... acts) {
-        due.fine(x, "plan", x.plan(), acts.length);
-        for (int k = 0; k < acts.length; k++) {
-            due.fine(x, "act " + k, x.planAt(k, 0), acts[k][0]);
-            due.fine(x, "minute of act " + k, x.planAt(k, 1), acts[k][1]);
-            if (acts[k][0] == 2) {
-                due.none(x, "who of turn " + k, x.planAt(k, 2), 6);
-            } else {
-                due.fine(x, "who of act " + k, x.planAt(k, 2), acts[k][2]);
-            }
-        }
-        due.none(x, "behind all acts", x.planAt(acts.length, 0), 6);
-        due.none(x, "ahead of all acts", x.planAt(-1, 0), 6);
-    }
-
     private static void oneShip() {
         HornBridge x = Due.at("port p calls l;turns 3;ship a of p at 1 takes 4 costs 5;");
         due.fine(x, "least", x.least(), 10);
-        acts(x, new int[] {2, 0}, new int[] {0, 3, 0});
+        due.acts(x, new int[] {2, 0}, new int[] {0, 3, 0});
         due.fine(x, "worth", x.worth(0), 10);
         due.fine(x, "quicker", x.quicker(1), 0);
         due.fine(x, "quicker", x.quicker(20), 95);
@@ -71,7 +56,7 @@ public final class WaitsTest {
     private static void restsAsLongAsItCan() {
         HornBridge x = Due.at("port p calls l;turns 3;ship a of p at 1 takes 20 costs 0;");
         due.fine(x, "least", x.least(), 0);
-        acts(x, new int[] {2, 237}, new int[] {0, 240, 0});
+        due.acts(x, new int[] {2, 237}, new int[] {0, 240, 0});
         due.fine(x, "opened to when all have passed", x.opened(), 20);
         due.none(x, "dearest: nothing is above 0", x.dearest(), 6);
         due.fine(x, "busiest", x.busiest(), 1);
@@ -80,7 +65,7 @@ public final class WaitsTest {
     private static void preferences() {
         HornBridge x = Due.at("port p calls l;turns 2;ship a of p at 0 takes 1 costs 1;cart b at 0 takes 1 costs 1;");
         due.fine(x, "least", x.least(), 3);
-        acts(x, new int[] {1, 0, 0}, new int[] {2, 1}, new int[] {0, 3, 0});
+        due.acts(x, new int[] {1, 0, 0}, new int[] {2, 1}, new int[] {0, 3, 0});
         due.fine(x, "without", x.without(0), 2);
         due.fine(x, "busiest", x.busiest(), 0);
         HornBridge y = Due.at("port p calls l;turns 2;ship a of p at 0 takes 1 costs 0;ship b of p at 0 takes 1 costs 3;"
@@ -132,10 +117,10 @@ public final class WaitsTest {
         HornBridge x = Due.at("port p calls l;turns 3;frost 7 from 1;ship a of p at 10 takes 1 costs 1;"
                 + "cart b at 0 takes 1 costs 1;");
         due.fine(x, "a turn begun in minute 1 takes 10", x.least(), 1);
-        acts(x, new int[] {1, 0, 0}, new int[] {2, 1}, new int[] {0, 11, 0});
+        due.acts(x, new int[] {1, 0, 0}, new int[] {2, 1}, new int[] {0, 11, 0});
         due.fine(x, "frost in so many more as told", x.quicker(1), 0);
         HornBridge y = Due.at("port p calls l;turns 3;frost 7 from 1;ship a of p at 10 takes 1 costs 1;");
-        acts(y, new int[] {2, 0}, new int[] {0, 10, 0});
+        due.acts(y, new int[] {2, 0}, new int[] {0, 10, 0});
     }
 
     private static void slackStays() {

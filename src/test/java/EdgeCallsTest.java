@@ -20,6 +20,7 @@ public final class EdgeCallsTest {
         aloneAheadOfCouples();
         by0BeatsTheSecondNotBelow();
         couplesByBeats();
+        coupleOfTheLastPort();
         readingTells();
         readingsOfTheLatestCall();
         doubtFrom0To1();
@@ -232,6 +233,21 @@ public final class EdgeCallsTest {
         // One BEAT more or less is another number.
         readings(y, y.sound(0) | 1L << 23);
         readings(y, y.sound(0) ^ 1L << 13);
+        due.fine(x, "doubt by 12", x.doubt(1 << 12 | 1, 0));
+        due.fraction(x, "doubt by 12", 1, 1);
+        due.no(x, "doubt by 13", x.doubt(1 << 13 | 1, 0), 6);
+        due.fine(y, "doubt by 0 to 12", y.doubt(y.sound(0), 1));
+        due.fraction(y, "doubt by 0 to 12", 5, 6);
+    }
+
+    /** The last of six PORTS stands in a couple like each other one. */
+    private static void coupleOfTheLastPort() {
+        HornBridge x = Due.at(SIX);
+        readings(x, 0b1111, new int[] {0, 0, 1}, new int[] {0, 1, 3}, new int[] {0, 5, 1}, new int[] {1, 0, 1},
+                new int[] {5, 0, 1}, new int[] {5, 5, 1});
+        due.fine(x, "doubt of the last", x.doubt(0b1111, 5));
+        due.fraction(x, "doubt of the last", 1, 2);
+        readings(x, 0b101, new int[] {5}, new int[] {1, 1, 2}, new int[] {1, 5, 0}, new int[] {5, 1, 2}, new int[] {5, 5, 0});
     }
 
     /** "what 0: the PORT, 1: the second (6: alone), 2: the BEATS (6: alone) (1: what; 6: none such)". */
@@ -346,6 +362,11 @@ public final class EdgeCallsTest {
                 due.none(x, "HEARD alike", x.clearBeats(a, b), 6);
             }
         }
+        // What 13 BEATS would make has one READING alone, but 13 are too many.
+        HornBridge y = Due.at("port a calls sll;port b calls llll;echo 3;");
+        due.fine(y, "by 13 BEATS", y.readings(y.heard(1) | y.heard(0) << 13), 1);
+        due.is("by none of 0 to 12", leastClear(y, 1, 0), -1);
+        due.none(y, "not by 13", y.clearBeats(1, 0), 6);
     }
 
     /** "the least ECHO (0 to 9)": without an ECHO no two are alike, whatever the RIVER's. */

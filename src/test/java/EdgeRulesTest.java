@@ -26,6 +26,7 @@ public final class EdgeRulesTest {
         shipAheadStillThere();
         turnStrikes();
         firstRuleThatHolds();
+        notAndOr();
         notAskedWhileItTurnsOrPasses();
         factsCompared();
         shipsAndCartsCount();
@@ -205,6 +206,9 @@ public final class EdgeRulesTest {
         String[] tokens = {"if", " open", " and", " not", " (", " ships", " <", " 5", " or", " shut", " )", " do", " shut", ";"};
         StringBuilder text = new StringBuilder();
         for (String token : tokens) {
+            if (!token.equals(";")) {
+                due.rulesFaultAt(2, text + "^;");
+            }
             text.append(token);
             if (token.equals(";")) {
                 due.rulesTaken(text.toString(), 1);
@@ -294,8 +298,11 @@ public final class EdgeRulesTest {
         }
     }
 
+    /** A day, and the same once more: each begins anew in minute 0, SHUT. */
     private static void day(String river, String rules, int waits, int... kept) {
-        due.day(Due.at(river, rules), -1, waits, kept);
+        HornBridge x = Due.at(river, rules);
+        due.day(x, -1, waits, kept);
+        due.day(x, -1, waits, kept);
     }
 
     /** "(1) a turn .. that is over by then is over": in the minute in which it ends one begins. */
@@ -389,6 +396,43 @@ public final class EdgeRulesTest {
                 15, 0, 2, 20, 0, 0);
     }
 
+    /** "EITHER: BOTH {or BOTH}. BOTH: ONE {and ONE}. ONE: not ONE, or ( EITHER )": not ahead of and, and ahead of or. */
+    private static void notAndOr() {
+        String ship = PORT + "turns 1;ship a of p at 0 takes 1 costs 1;";
+        String[] truths = {"open", "shut"};
+        for (int set = 0; set < 8; set++) {
+            boolean a = (set & 1) == 1;
+            boolean b = (set & 2) == 2;
+            boolean c = (set & 4) == 4;
+            String as = truths[set & 1];
+            String bs = truths[set >> 1 & 1];
+            String cs = truths[set >> 2 & 1];
+            holds(ship, as, a);
+            holds(ship, "not " + as, !a);
+            holds(ship, as + " and " + bs, a && b);
+            holds(ship, as + " or " + bs, a || b);
+            holds(ship, "not " + as + " and " + bs, !a && b);
+            holds(ship, "not " + as + " or " + bs, !a || b);
+            holds(ship, "not (" + as + " and " + bs + ")", !(a && b));
+            holds(ship, "not (" + as + " or " + bs + ")", !(a || b));
+            holds(ship, as + " and not " + bs, a && !b);
+            holds(ship, as + " or not " + bs, a || !b);
+            holds(ship, as + " and " + bs + " and " + cs, a && b && c);
+            holds(ship, as + " or " + bs + " or " + cs, a || b || c);
+            holds(ship, as + " and " + bs + " or " + cs, a && b || c);
+            holds(ship, as + " or " + bs + " and " + cs, a || b && c);
+            holds(ship, "(" + as + " or " + bs + ") and " + cs, (a || b) && c);
+            holds(ship, as + " and (" + bs + " or " + cs + ")", a && (b || c));
+            holds(ship, "not not " + as + " or not (not " + bs + " or " + cs + ")", a || !(!b || c));
+        }
+    }
+
+    /** Of a minute in which it is SHUT. */
+    private static void holds(String river, String either, boolean want) {
+        HornBridge x = Due.at(river, "if (" + either + ") and minute=7 do open;");
+        due.fine(x, either, x.keep(-1), want ? 8 : 0);
+    }
+
     /** "COMPARES: < or > or =": just below, just so, just above. */
     private static void factsCompared() {
         String ship = PORT + "turns 1;ship a of p at 0 takes 1 costs 1;";
@@ -468,6 +512,7 @@ public final class EdgeRulesTest {
     private static void turnedAnew() {
         String ship = PORT + "turns 2;ship a of p at 100 takes 1 costs 1;";
         opensAt(ship, "turned=0", 0);
+        day(ship.replace("at 100", "at 0"), "if turned=7 do open;", 9, 0, 1, 10, 0, 1);
         opensAt(ship, "turned=7", 7);
         opensAt(ship, "turned>7", 8);
         opensAt(ship, "turned=100", 100);
@@ -635,7 +680,11 @@ public final class EdgeRulesTest {
             due.fine(x, "waits to the last seed", x.waits(10000 - many, many), all);
             due.none(x, "waits a seed further", x.waits(10001 - many, many), 1);
         }
-        due.fine(x, "from 0", x.waits(0, 1), x.keep(0));
-        due.is("some wait", x.waits(0, 20) > 0, true);
+        int all = 0;
+        for (int many = 1; many <= 20; many++) {
+            all += x.keep(many - 1);
+            due.fine(x, "from 0", x.waits(0, many), all);
+        }
+        due.is("some wait", all > 0, true);
     }
 }

@@ -11,6 +11,7 @@ public final class EdgeTextsTest {
         feedTakesTheHighestByteFirst();
         tapeOf900Bytes();
         riverTakesTheFirstBytes();
+        tokensEndWithTheText();
         tapeIsEmptyThen();
         riverOf900Bytes();
         emptyRiver();
@@ -24,6 +25,7 @@ public final class EdgeTextsTest {
         nearKeywordsAreNames();
         blastsOf1To6Letters();
         oneNameIsOfOneThing();
+        eachOfEighteenNames();
         portsToldAhead();
         sameBlasts();
         numbersThatCanBe();
@@ -100,6 +102,30 @@ public final class EdgeTextsTest {
         HornBridge x = new HornBridge();
         due.none(x, "of an empty tape", x.river(1), 1);
         due.fine(x, "nothing of an empty tape", x.river(0), 0);
+    }
+
+    /** What lies on the tape behind the n bytes is no part of a TOKEN. */
+    private static void tokensEndWithTheText() {
+        cut("turnsx 5;", 5, 2, 5);
+        cut("turns 20;", 7, 2, 7);
+        cut("turns 12345;", 10, 4, 6);
+        cut("turns 12345;", 11, 1, 6);
+        cut("port p calls llllllllls;", 19, 2, 19);
+        cut("port p calls llllllllls;", 20, 2, 13);
+        cut("port pppppppppppp calls l;", 13, 2, 13);
+        cut("port pppppppppppp calls l;", 14, 2, 5);
+        cut("cart a atx", 9, 2, 9);
+        cut("echo 5;#", 7, 0, -1);
+        cut("echo 5;   ;", 10, 0, -1);
+        cut("echo 5;\n\n\n#", 9, 0, -1);
+    }
+
+    private static void cut(String text, int n, int kind, int place) {
+        HornBridge x = new HornBridge();
+        Due.feed(x, text);
+        due.is("the first " + n + " bytes of " + text, x.river(n), kind == 0 ? 0 : -1);
+        due.is("FAULT", x.fault(0), kind);
+        due.is("its place", x.fault(1), place);
     }
 
     /** "the tape (which is empty then)", of a taken text and of one with a FAULT. */
@@ -331,6 +357,29 @@ public final class EdgeTextsTest {
         }
     }
 
+    /** The last of eighteen has none of the names ahead. */
+    private static void eachOfEighteenNames() {
+        StringBuilder text = new StringBuilder();
+        for (char c = 'a'; c < 'g'; c++) {
+            text.append("port p").append(c).append(" calls ").append("s".repeat(c - 'a' + 1)).append(';');
+            text.append("ship s").append(c).append(" of pa at 1 takes 1 costs 1;");
+            if (c < 'f') {
+                text.append("cart c").append(c).append(" at 1 takes 1 costs 1;");
+            }
+        }
+        due.riverTaken(text + "cart cf at 1 takes 1 costs 1;", 6);
+        for (String kind : new String[] {"p", "s", "c"}) {
+            for (char c = 'a'; c < (kind.equals("c") ? 'f' : 'g'); c++) {
+                due.riverFaultAt(3, text + "cart ^" + kind + c + " at 1 takes 1 costs 1;");
+            }
+        }
+        String last = "cart cf at 1 takes 1 costs 1;";
+        for (char c = 'a'; c < 'f'; c++) {
+            String other = "cart c" + c + " at 1 takes 1 costs 1;";
+            due.riverFaultAt(3, text.toString().replace(other, "") + other + last.replace("cf", "^c" + c));
+        }
+    }
+
     /** "a PORT must be told ahead of its SHIPS"; "a NAME that is no PORT told ahead". */
     private static void portsToldAhead() {
         due.riverFaultAt(3, "ship a of ^p at 1 takes 1 costs 1;" + PORT);
@@ -458,6 +507,10 @@ public final class EdgeTextsTest {
             " 1", ";"};
         StringBuilder text = new StringBuilder();
         for (String token : tokens) {
+            if (!token.equals(";") && !token.equals(" sail")) {
+                due.riverFaultAt(2, text + "^;");
+                due.riverFaultAt(2, text + " ^;" + PORT);
+            }
             text.append(token);
             if (token.equals(";")) {
                 due.riverTaken(text.toString(), text.toString().contains("ship") ? 1 : 0);

@@ -19,7 +19,10 @@ public final class EdgeWaitsTest {
         waitsTimesCost();
         beginsRatherThanRests();
         restsRatherThanTurns();
+        beginningWouldCostMore();
+        twentyFourActs();
         planAtTells();
+        leastStaysTheSame();
         worth();
         quicker1To20();
         awayTheFewest();
@@ -113,6 +116,11 @@ public final class EdgeWaitsTest {
         least("cart c at 6 takes 20 costs 0;cart d at 5 takes 1 costs 9;", 0);
         least("cart c at 5 takes 20 costs 0;cart d at 5 takes 1 costs 9;", 180);
         least("cart d at 5 takes 1 costs 9;cart c at 5 takes 20 costs 0;", 0);
+        // Each keeps what it TAKES and COSTS, wherever it stands in the text.
+        least("cart c at 6 takes 20 costs 0;cart d at 5 takes 1 costs 9;cart e at 7 takes 1 costs 1;", 19);
+        least("cart c at 9 takes 3 costs 7;cart d at 6 takes 20 costs 0;cart e at 5 takes 1 costs 9;", 119);
+        least(PORT + "ship a of p at 26 takes 1 costs 1;ship b of p at 6 takes 20 costs 0 sail;ship c of p at 5 takes 1 costs 9;", 0);
+        hopeless(PORT + "ship a of p at 26 takes 1 costs 1;ship b of p at 6 takes 20 costs 0 sail;ship c of p at 5 takes 2 costs 9;");
         least(PORT + "ship a of p at 5 takes 20 costs 0;ship b of p at 6 takes 1 costs 9;", 171);
         least(PORT + "ship a of p at 5 takes 20 costs 0;ship b of p at 5 takes 1 costs 9;", 180);
         least(PORT + "ship b of p at 5 takes 1 costs 9;ship a of p at 5 takes 20 costs 0;", 0);
@@ -210,6 +218,82 @@ public final class EdgeWaitsTest {
         due.acts(y, new int[] {2, 25}, new int[] {0, 30, 0}, new int[] {2, 235}, new int[] {1, 240, 0});
         HornBridge z = Due.at(PORT + "ship a of p at 0 takes 1 costs 1;");
         due.acts(z, new int[] {2, 0}, new int[] {0, 5, 0});
+        // A minute for each step, from minute 0 to 240.
+        HornBridge w = Due.at(PORT + "turns 1;ship a of p at 0 takes 1 costs 0;");
+        due.acts(w, new int[] {2, 239}, new int[] {0, 240, 0});
+        // What the SHIP waits is spent: the CART waits no minute more for it.
+        HornBridge v = Due.at(PORT + "turns 1;ship a of p at 0 takes 1 costs 2;cart c at 7 takes 4 costs 2;");
+        due.acts(v, new int[] {2, 0}, new int[] {0, 1, 0}, new int[] {2, 6}, new int[] {1, 7, 0});
+    }
+
+    /** "with which it still comes to the LEAST": the next could begin, but all WAITS would be more. */
+    private static void beginningWouldCostMore() {
+        // In minute 11 b costs 1, and the CART 12; behind the CART b costs 12.
+        HornBridge x = Due.at(PORT + "ship a of p at 10 takes 1 costs 0 sail;ship b of p at 10 takes 12 costs 1;"
+                + "cart c at 16 takes 1 costs 1;");
+        due.fine(x, "least", x.least(), 12);
+        due.acts(x, new int[] {2, 5}, new int[] {0, 10, 0}, new int[] {2, 11}, new int[] {1, 16, 0}, new int[] {2, 17},
+                new int[] {0, 22, 1});
+        // In minute 1 d costs 1, and the SHIP 12; behind the SHIP d costs 12.
+        HornBridge y = Due.at(PORT + "cart c at 0 takes 1 costs 0;cart d at 0 takes 12 costs 1;ship a of p at 6 takes 1 costs 1;");
+        due.fine(y, "least", y.least(), 12);
+        due.acts(y, new int[] {1, 0, 0}, new int[] {2, 1}, new int[] {0, 6, 0}, new int[] {2, 7}, new int[] {1, 12, 1});
+        // In minute 7 a costs 0, the CART 6 and c 8, or c 0 and the CART 12; behind the CART, which costs 2, c costs 8.
+        HornBridge z = Due.at(PORT + "turns 1;ship a of p at 6 takes 2 costs 0;ship b of p at 1 takes 6 costs 0;"
+                + "ship c of p at 9 takes 3 costs 2;cart d at 7 takes 2 costs 2;");
+        due.fine(z, "least", z.least(), 10);
+        due.acts(z, new int[] {2, 0}, new int[] {0, 1, 1}, new int[] {2, 7}, new int[] {1, 8, 0}, new int[] {2, 10},
+                new int[] {0, 11, 0}, new int[] {0, 13, 2});
+        // In minute 0 a CART costs 0, the SHIP 4 and c 3; behind the SHIP, which costs 1, d costs 0 and c 3.
+        HornBridge w = Due.at(PORT + "turns 1;ship a of p at 0 takes 6 costs 1;cart c at 8 takes 5 costs 1;cart d at 0 takes 3 costs 0;");
+        due.fine(w, "least", w.least(), 4);
+        due.acts(w, new int[] {2, 0}, new int[] {0, 1, 0}, new int[] {2, 7}, new int[] {1, 8, 1}, new int[] {1, 11, 0});
+        // In minute 4 b costs 0, and the CART 8; behind the CART b costs 4.
+        HornBridge v = Due.at(PORT + "turns 1;ship a of p at 3 takes 1 costs 1;ship b of p at 4 takes 5 costs 1;cart c at 6 takes 1 costs 2;");
+        due.fine(v, "least", v.least(), 4);
+        due.acts(v, new int[] {2, 2}, new int[] {0, 3, 0}, new int[] {2, 5}, new int[] {1, 6, 0}, new int[] {2, 7}, new int[] {0, 8, 1});
+        // In minute 2 the CART costs 0, and the SHIP 15; behind the SHIP it costs 3.
+        HornBridge u = Due.at(PORT + "turns 1;ship a of p at 3 takes 1 costs 3;cart c at 2 takes 5 costs 1;");
+        due.fine(u, "least", u.least(), 3);
+        due.acts(u, new int[] {2, 2}, new int[] {0, 3, 0}, new int[] {2, 4}, new int[] {1, 5, 0});
+    }
+
+    /** The longest PLAN: a turn ahead of each of twelve. */
+    private static void twentyFourActs() {
+        StringBuilder text = new StringBuilder(PORT).append("turns 1;");
+        int[][] acts = new int[24][];
+        for (int i = 0; i < 6; i++) {
+            int at = 1 + 4 * i;
+            text.append("ship s").append((char) ('a' + i)).append(" of p at ").append(at).append(" takes 1 costs 1;");
+            text.append("cart c").append((char) ('a' + i)).append(" at ").append(at + 2).append(" takes 1 costs 1;");
+            acts[4 * i] = new int[] {2, at - 1};
+            acts[4 * i + 1] = new int[] {0, at, i};
+            acts[4 * i + 2] = new int[] {2, at + 1};
+            acts[4 * i + 3] = new int[] {1, at + 2, i};
+        }
+        HornBridge x = Due.at(text.toString());
+        due.fine(x, "least", x.least(), 0);
+        due.acts(x, acts);
+        due.fine(x, "opened", x.opened(), 6);
+    }
+
+    /** What is asked between leaves the LEAST as it is. */
+    private static void leastStaysTheSame() {
+        HornBridge x = Due.at(PORT + "turns 1;ship a of p at 6 takes 2 costs 0;ship b of p at 1 takes 6 costs 0;"
+                + "ship c of p at 9 takes 3 costs 2;cart d at 7 takes 2 costs 2;");
+        for (int i = 0; i < 3; i++) {
+            due.fine(x, "least", x.least(), 10);
+            due.fine(x, "plan", x.plan(), 7);
+            due.fine(x, "least behind plan()", x.least(), 10);
+            x.slack(2);
+            due.fine(x, "least behind slack()", x.least(), 10);
+            x.away();
+            due.fine(x, "least behind away()", x.least(), 10);
+            x.quicker(20);
+            x.without(0);
+            x.later(0, 60);
+            x.worth(0);
+        }
     }
 
     /** "(1: what; 6)"; "2: who (6: a turn)"; "by plan() latest with STATUS 0". */
@@ -248,6 +332,10 @@ public final class EdgeWaitsTest {
         for (int ship : new int[] {Integer.MIN_VALUE, -1, 2, 6, Integer.MAX_VALUE}) {
             due.none(y, "worth", y.worth(ship), 1);
         }
+        HornBridge some = Due.at(PORT + "turns 3;ship a of p at 0 takes 1 costs 2;ship b of p at 0 takes 1 costs 1;");
+        due.fine(some, "6 and 4", some.least(), 10);
+        due.fine(some, "without it 3", some.worth(0), 7);
+        due.fine(some, "without it 6", some.worth(1), 4);
         HornBridge z = Due.at(PORT + "turns 3;ship a of p at 2 takes 4 costs 9 sail;ship b of p at 4 takes 1 costs 2;");
         due.none(z, "all can't pass, though they could without it", z.worth(0), 6);
         due.none(z, "all can't pass", z.worth(1), 6);
@@ -348,6 +436,8 @@ public final class EdgeWaitsTest {
         slack(PORT + "ship a of p at 10 takes 2 costs 1;ship b of p at 12 takes 20 costs 0 sail;"
                 + "ship c of p at 32 takes 20 costs 0 sail;ship d of p at 52 takes 20 costs 0 sail;", 0, 0);
         slack(PORT + "ship a of p at 120 takes 1 costs 1;", 0, 60);
+        // It must turn in minute 0.
+        slack(PORT + "ship a of p at 5 takes 1 costs 0 sail;ship b of p at 40 takes 1 costs 1;", 1, 60);
         HornBridge x = Due.at(first + "71 takes 1 costs 0 sail;");
         for (int ship : new int[] {Integer.MIN_VALUE, -1, 2, 6, Integer.MAX_VALUE}) {
             due.none(x, "slack of " + ship, x.slack(ship), 1);
@@ -405,6 +495,7 @@ public final class EdgeWaitsTest {
     private static void dearestOfSeveral() {
         dearest(PORT + "turns 5;ship a of p at 0 takes 1 costs 1;", 0);
         dearest("cart c at 0 takes 1 costs 1;cart d at 0 takes 1 costs 1;", 7);
+        dearest(PORT + "ship a of p at 10 takes 1 costs 0 sail;cart c at 4 takes 2 costs 1;", 6);
         dearest(six("cart c^ at 0 takes 1 costs 0;").replace("cart cf at 0 takes 1 costs 0", "cart cf at 0 takes 1 costs 1"), 11);
         // 5 of the SHIP that comes first, 5 of the other: the first by its number.
         dearest(PORT + "ship a of p at 1 takes 1 costs 1;ship b of p at 0 takes 1 costs 1;", 0);

@@ -192,6 +192,8 @@ public final class EdgeWaitsTest {
     private static void waitsTimesCost() {
         least(PORT + "turns 20;frost 20 from 0;ship a of p at 0 takes 1 costs 99;", 3960);
         least(PORT + "turns 20;ship a of p at 0 takes 1 costs 0;", 0);
+        // With the SHIP first the CART would wait a minute; the SHIP waits without COST.
+        least(PORT + "turns 3;ship a of p at 3 takes 1 costs 0;cart c at 6 takes 1 costs 1;", 0);
         least("cart c at 0 takes 10 costs 3;cart d at 1 takes 10 costs 5;cart e at 2 takes 1 costs 7;", 45 + 126);
     }
 
@@ -436,6 +438,8 @@ public final class EdgeWaitsTest {
         slack(PORT + "ship a of p at 10 takes 2 costs 1;ship b of p at 12 takes 20 costs 0 sail;"
                 + "ship c of p at 32 takes 20 costs 0 sail;ship d of p at 52 takes 20 costs 0 sail;", 0, 0);
         slack(PORT + "ship a of p at 120 takes 1 costs 1;", 0, 60);
+        // The first waits 5 minutes, as it can't turn ahead of minute 0; by 60 the last would wait a minute, too.
+        slack(PORT + "ship a of p at 0 takes 1 costs 1;ship b of p at 10 takes 2 costs 1;ship c of p at 71 takes 1 costs 1;", 1, 59);
         // It must turn in minute 0.
         slack(PORT + "ship a of p at 5 takes 1 costs 0 sail;ship b of p at 40 takes 1 costs 1;", 1, 60);
         HornBridge x = Due.at(first + "71 takes 1 costs 0 sail;");

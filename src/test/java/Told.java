@@ -8,7 +8,7 @@ import java.util.TreeSet;
 
 /**
  * The document's words once more, in their plainest and slowest form, call by call: sets of BEATS, words as texts, all
- * rows of calls, all minutes. It shares no line and no way of going about it with the class.
+ * rows of calls, all minutes. It shares no code with the class.
  */
 final class Told {
     private static final int NEVER = 1_000_000_000;
